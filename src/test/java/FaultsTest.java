@@ -130,6 +130,10 @@ public final class FaultsTest {
         fault(ROOM, "fun()s:" + many(put, 397) + "out 1 out 1 @ret 0");
         fault(SYNTAX, "fun()s:" + many(put, 397) + "out 1 ret 0 @5");
         fault(ROOM, "fun()s:" + many(put, 397) + "out 1 ret 0 @t:");
+        fault(ROOM, "fun()s:" + many(put, 397) + "out 1 out 1 @x=in ret 0");
+        fault(ROOM, "fun()s:" + many(put, 397) + "out 1 out 1 @x");
+        fault(ROOM, "fun()s:" + many(put, 397) + "x=in out @1 ret 0");
+        fault(SYNTAX, "fun()s:" + many(put, 397) + "x=in out @ret 0");
         fault(SYNTAX, "fun()s:" + many(put, 397) + "out 1 out 1@");
         fault(SYNTAX, "fun()s:" + many(put, 397) + "out 1 out 1@?");
         fault(SYNTAX, "fun()s:" + many(put, 398) + "ret @phi");

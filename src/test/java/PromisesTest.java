@@ -371,6 +371,26 @@ public final class PromisesTest {
         due("13: three PARAMETERS in two", CHECK.good("fun(a,b,c) s: out a out b out c ret 0").fit(2), -2);
         fitsAtEnds();
         fitsTooMany();
+        fitsJust(94, 4, 500);
+        fitsJust(95, -2, 99);
+    }
+
+    /** Four SLOTS with 402 LOADS: with so many VALUES ahead of them that there are 500 then, or one more. */
+    private static void fitsJust(int fillers, int want, int values) {
+        StringBuilder s = new StringBuilder("fun() s:");
+        for (int v = 0; v < fillers; v++) {
+            s.append("f").append(v).append("=in ");
+        }
+        s.append("a=in b=in x=in y=in put x y ");
+        for (int n = 0; n < 200; n++) {
+            s.append("put a b ");
+        }
+        PaletteHouse x = CHECK.good(s.append("ret 0").toString());
+        due("13: fit with " + fillers, x.fit(2), want);
+        due("13: VALUES with " + fillers, x.count(1), values);
+        x.colour(0);
+        x.lower();
+        due("13: run with " + fillers, x.run(true, 5000), 1);
     }
 
     /** An ARM and an END: the LOAD is the BLOCK's last INS, and one for all of these. A PHI's result: SAVE is first. */
