@@ -651,7 +651,7 @@ public final class PaletteHouse {
                 number = -number;
             }
             boolean good = end > first && end - first <= DIGITS_MOST
-                && number >= Integer.MIN_VALUE && number <= Integer.MAX_VALUE;
+                && number == (int) number;
             keep(good ? NUMBER : WRONG, from, (int) number, 0);
             return end;
         }
@@ -1727,12 +1727,13 @@ public final class PaletteHouse {
 
         private int choose(int point) {
             int best = NONE;
-            int fewest = Integer.MAX_VALUE;
+            int fewest = 0;
             for (int v = 0; v < program.texted; v++) {
                 boolean open = program.values.at(v, SLOT) == NONE && program.life.holds(point, v);
-                if (open && program.values.at(v, USES) <= fewest) {
+                int uses = program.values.at(v, USES);
+                if (open && (best == NONE || uses <= fewest)) {
                     best = v;
-                    fewest = program.values.at(v, USES);
+                    fewest = uses;
                 }
             }
             return best;
