@@ -1,4 +1,7 @@
 import java.nio.charset.StandardCharsets;
+import java.util.List;
+import java.util.function.Consumer;
+import java.util.function.ToIntFunction;
 
 /** What the tests share: answers compared with those that are due, and texts fed. */
 final class Check {
@@ -54,6 +57,51 @@ final class Check {
         feed(house, text);
         house.read();
         return house;
+    }
+
+    /** Reads the text without its @, which stands where the fault is due; without one there is none. */
+    void fault(int number, String marked) {
+        int place = marked.indexOf('@');
+        String text = marked.replace("@", "");
+        String shown = marked.length() <= 100 ? marked
+            : marked.substring(0, 30) + " .. " + marked.substring(marked.length() - 50);
+        PaletteHouse house = new PaletteHouse();
+        feed(house, text);
+        due("fed " + shown, house.count(12), text.length());
+        due("read of " + shown, house.read(), number);
+        due("place in " + shown, house.place(), place);
+        due("the tape behind " + shown, house.count(12), 0);
+    }
+
+    /** So many parts, one behind the other, with their numbers in place of #. */
+    static String many(String part, int n) {
+        StringBuilder s = new StringBuilder();
+        for (int i = 0; i < n; i++) {
+            s.append(part.replace("#", String.valueOf(i)));
+        }
+        return s.toString();
+    }
+
+    /** A call that changes nothing: behind it an object answers all as its twin does, which had no such call. */
+    void refused(String name, Consumer<PaletteHouse> state, ToIntFunction<PaletteHouse> call, int want) {
+        PaletteHouse touched = new PaletteHouse();
+        state.accept(touched);
+        PaletteHouse twin = new PaletteHouse();
+        state.accept(twin);
+        due(name, call.applyAsInt(touched), want);
+        same(name, Look.at(touched), Look.at(twin));
+    }
+
+    void same(String name, List<String> got, List<String> want) {
+        asked++;
+        for (int n = 0; n < Math.max(got.size(), want.size()); n++) {
+            String here = n < got.size() ? got.get(n) : "nothing";
+            String there = n < want.size() ? want.get(n) : "nothing";
+            if (!here.equals(there)) {
+                due(name + ", then " + here + " and not " + there, false, true);
+                return;
+            }
+        }
     }
 
     /** A text of which every word is due to be at hand: read must tell 0. */

@@ -24,15 +24,7 @@ public final class FaultsTest {
     }
 
     private static void fault(int number, String marked) {
-        int place = marked.indexOf('@');
-        String text = marked.replace("@", "");
-        String shown = marked.length() <= 100 ? marked
-            : marked.substring(0, 30) + " .. " + marked.substring(marked.length() - 50);
-        PaletteHouse x = new PaletteHouse();
-        Check.feed(x, text);
-        CHECK.due("fed " + shown, x.count(12), text.length());
-        CHECK.due("read of " + shown, x.read(), number);
-        CHECK.due("place in " + shown, x.place(), place);
+        CHECK.fault(number, marked);
     }
 
     private static void good(String text) {
@@ -115,11 +107,7 @@ public final class FaultsTest {
     }
 
     private static String many(String part, int n) {
-        StringBuilder s = new StringBuilder();
-        for (int i = 0; i < n; i++) {
-            s.append(part.replace("#", String.valueOf(i)));
-        }
-        return s.toString();
+        return Check.many(part, n);
     }
 
     private static void rooms() {
