@@ -19,6 +19,7 @@ public final class CallsEdgesTest {
         backUpToAll();
         readEmptiesTheTape();
         readForgets();
+        readBehindAnother();
         placeNoneWithout();
         blockNoneForOthers();
         valueNoneForOthers();
@@ -166,6 +167,40 @@ public final class CallsEdgesTest {
             due(name + ", OUTPUT", x.output(true, 0), 0);
             due(name + ", MEMORY", x.memory(true, 3), 0);
             due(name + ", INPUT stays", x.clear(), had);
+        }
+    }
+
+    private static void pass(PaletteHouse x, String text, int k) {
+        Check.feed(x, text);
+        x.read();
+        x.fit(k);
+        x.colour(1);
+        x.lower();
+        x.run(true, 60);
+        x.run(false, 40);
+    }
+
+    /** 4: "and it is the function": nothing of an earlier one is left in it, whatever was done with that. */
+    private static void readBehindAnother() {
+        String[] texts = {States.FLIP, States.THREE, "fun()s:ret 0", "fun(a,b,c,d)s:put a b put c d ret 0",
+            "fun(a)s:if a t u t:b=add a 1 go v u:c=copy a go v v:p=phi t b,u c q=phi t a,u 5 put p q ret p",
+            "fun()s:go u t:b=in out a ret b u:a=in if a t v v:go t",
+            "fun(n)s:go h h:i=phi s n,h j j=sub i 1 if j h e e:out n ret i", "fun(a)s:go t t:if a t u u:ret 4"};
+        for (String first : texts) {
+            for (String second : texts) {
+                for (int k = 2; k <= 3; k++) {
+                    PaletteHouse x = new PaletteHouse();
+                    x.input(3);
+                    x.input(4);
+                    pass(x, first, k);
+                    pass(x, second, k);
+                    PaletteHouse twin = new PaletteHouse();
+                    twin.input(3);
+                    twin.input(4);
+                    pass(twin, second, k);
+                    CHECK.same("4: " + second + " behind " + first, Look.at(x), Look.at(twin));
+                }
+            }
         }
     }
 
@@ -417,6 +452,9 @@ public final class CallsEdgesTest {
         due("15: a fit() that told -2", x.lower(), 6);
         x.fit(3);
         due("15: a fit() that told 0", x.lower(), NONE);
+        x.fit(3);
+        due("15: and one more", x.lower(), NONE);
+        due("15: no COLOUR", x.value(0, 3), NONE);
         x.colour(0);
         due("15: COLOURS again", x.lower(), 6);
         Check.feed(x, "fun()s:ret z");

@@ -17,6 +17,7 @@ public final class TermsEdgesTest {
         theOrder();
         liveRightBehindTheDefinition();
         liveUpToAnArmsUse();
+        liveFromOneBlockToAnother();
         liveWithoutComingByTheDefinition();
         theCliqueOfTheFirstPoint();
         meetAtOnePoint();
@@ -26,9 +27,11 @@ public final class TermsEdgesTest {
         wantedButNotFree();
         coloursAreGivenAnew();
         theGreatestNumberOfSeveral();
+        asManySlotsAsValues();
         theFewestUses();
         saveBehindTheBegin();
         loadForTheEndAndTheArms();
+        loadsBlockByBlock();
         noneToChoose();
         noResultOfLoadAndNoneWithASlot();
         moreThan500Values();
@@ -90,6 +93,8 @@ public final class TermsEdgesTest {
         idoms("fun(v)s:if v x y x:if v y e y:if v x e e:ret 0", NONE, 0, 0, 0);
         // The one that DOMINATES may stand behind.
         idoms("fun()s:go u t:ret 0 u:go t", NONE, 2, 0);
+        idoms("fun()s:go u t:go v u:go t v:ret 0", NONE, 2, 0, 1);
+        idoms("fun(a)s:go x t:ret 0 u:if a t v v:go w w:go t x:go u", NONE, 2, 5, 2, 3, 0);
     }
 
     private static void idomOfAChain() {
@@ -150,6 +155,20 @@ public final class TermsEdgesTest {
         due("ARM: the result is", x.live(3, 0, 1), true);
         due("ARM: the result is not ahead", x.live(1, 1, 1), false);
         due("ARM: POINTS", x.value(0, 5), 3);
+    }
+
+    /** "if from there a way leads to a use of it": an INS's first or second VAL, or an END, in another BLOCK. */
+    private static void liveFromOneBlockToAnother() {
+        PaletteHouse x = good("fun(a,b,c,d)s:out 6 go t t:out 1 e=add 1 b out e put a 2 if c u v u:ret d v:ret 0");
+        int[][] last = {{1, 3}, {1, 1}, {1, 4}, {2, 0}};
+        for (int v = 0; v < 4; v++) {
+            for (int b = 0; b < 4; b++) {
+                for (int i = 0; i <= x.block(b, 2); i++) {
+                    due("far: live(" + b + "," + i + "," + v + ")", x.live(b, i, v),
+                        b < last[v][0] || b == last[v][0] && i <= last[v][1]);
+                }
+            }
+        }
     }
 
     /** "without coming by its definition". */
@@ -243,6 +262,9 @@ public final class TermsEdgesTest {
         colours("a lives on", coloured("fun(a)s:b=copy a put a b ret 0", 1), 0, 1);
         colours("a is gone", coloured("fun(x,a)s:out x b=copy a ret b", 1), 0, 1, 1);
         colours("a lives on", coloured("fun(x,a)s:out x b=copy a put a b ret 0", 1), 0, 1, 0);
+        // A copy's result wants nothing for another VALUE, nor what is copied for another result.
+        colours("another copy", coloured("fun(x,a)s:out x b=copy a out b c=in ret c", 1), 0, 1, 1, 0);
+        colours("another copy", coloured("fun(x,a)s:out x b=copy a out b c=copy 5 ret c", 1), 0, 1, 1, 0);
     }
 
     /** A COLOUR of an earlier colour() wants nothing. */
@@ -269,6 +291,31 @@ public final class TermsEdgesTest {
         due("then the next", x.value(148, 4), 1);
         due("no other", x.value(147, 4), NONE);
         due("MAXLIVE then", x.count(4), 149);
+    }
+
+    /** All the 150 VALUES of a text get SLOTS, and their code runs. */
+    private static void asManySlotsAsValues() {
+        PaletteHouse x = good("fun()s:" + Check.many("a#=in b#=in out a# out b# ", 75) + "ret 0");
+        due("150 VALUES", x.count(1), 150);
+        due("all of them", x.fit(1), 150);
+        due("SLOTS", x.count(6), 150);
+        due("MAXLIVE", x.count(4), 1);
+        due("LOADS", x.count(1), 300);
+        for (int n = 0; n < 75; n++) {
+            due("SLOT of b", x.value(2 * n + 1, 4), 2 * n);
+            due("SLOT of a", x.value(2 * n, 4), 2 * n + 1);
+        }
+        for (int n = 1; n <= 50; n++) {
+            x.input(n);
+        }
+        due("one COLOUR", x.colour(1), 1);
+        due("ROWS", x.lower(), 601);
+        due("run", x.run(true, 5000), 1);
+        due("run", x.run(false, 5000), 1);
+        for (int i = 0; i < 100; i++) {
+            due("out of the CODE", x.output(true, i), i < 50 ? i + 1 : 0);
+            due("out of the function", x.output(false, i), i < 50 ? i + 1 : 0);
+        }
     }
 
     /** "the one with the fewest USES (each VAL)". */
@@ -321,6 +368,10 @@ public final class TermsEdgesTest {
         due("an ARM alone", x.fit(2), 1);
         ins(x, 0, 8, LOAD, 4, NONE, 0);
         due("for the ARM", x.value(4, 2), 1);
+        x = good("fun(v)s:a=in b=in " + puts + "put a b go t t:p=phi s a q=phi s 5 put p q ret v");
+        due("an ARM with another", x.fit(2), 1);
+        due("no LOAD in s", x.block(0, 2), 8);
+        due("but in t", x.ins(1, 2, 0), LOAD);
         x = good("fun(v)s:a=in b=in " + puts + "ret v");
         due("an END alone", x.fit(2), 1);
         ins(x, 0, 8, LOAD, 3, NONE, 0);
@@ -329,6 +380,37 @@ public final class TermsEdgesTest {
         ins(x, 0, 8, LOAD, 3, NONE, 0);
         ins(x, 0, 9, 17, NONE, 3);
         due("no LOAD at the end", x.block(0, 2), 9);
+    }
+
+    /** "then, BLOCK by BLOCK": each keeps its own INS, and LOADS only where it is used. */
+    private static void loadsBlockByBlock() {
+        PaletteHouse x = good("fun(v)s:a=in b=in put a b put a b go t t:p=phi s a q=phi s b put p q put p q out 9 if p u w "
+            + "u:out 8 c=add v 1 ret c w:out 7 out v ret q");
+        due("fit", x.fit(2), 1);
+        due("v's", x.value(0, 4), 0);
+        ops(x, new int[][] {{SAVE, 15, 15, 18, 18}, {18, 18, 17}, {17, LOAD, 3}, {17, LOAD, 17}});
+        due("the first LOAD", x.ins(2, 2, 1), 6);
+        due("the second LOAD", x.ins(3, 2, 1), 7);
+        due("POINT of c", x.value(5, 1), 3);
+        x.input(4);
+        x.input(5);
+        x.input(6);
+        due("COLOURS", x.colour(0), 2);
+        x.lower();
+        told("fitted", x, 50, 1, 12, 5, 2, 3);
+        x = good("fun()s:go t t:p=phi s 1 a=in b=in put a b put a b put a b go u u:c=in out c out p ret 0");
+        due("fit", x.fit(2), 1);
+        due("p's", x.value(0, 4), 0);
+        ops(x, new int[][] {{}, {SAVE, 15, 15, 18, 18, 18}, {15, 17, LOAD, 17}});
+    }
+
+    private static void ops(PaletteHouse x, int[][] want) {
+        for (int b = 0; b < want.length; b++) {
+            due("INS of " + b, x.block(b, 2), want[b].length);
+            for (int i = 1; i <= want[b].length; i++) {
+                due("OP(" + b + "," + i + ")", x.ins(b, i, 0), want[b][i - 1]);
+            }
+        }
     }
 
     private static void lowered(PaletteHouse x, String text) {
@@ -467,6 +549,8 @@ public final class TermsEdgesTest {
         rows("D = S", x, new int[][] {go(1), ret(0, 0)});
         x = coloured("fun(a,b)s:go t t:p=phi s a q=phi s b put p q ret 0", 0);
         rows("both", x, new int[][] {go(1), put(0, 1), ret(NONE, 0)});
+        x = coloured("fun(a,b)s:out a go t t:p=phi s b ret p", 0);
+        rows("to register 0", x, new int[][] {{17, NONE, 0, 0}, move(0, 1), go(3), ret(0, 0)});
         // Only one of the two.
         x = coloured("fun(a,b)s:go t t:p=phi s a q=phi s a put p q ret 0", 0);
         rows("one", x, new int[][] {move(1, 0), go(2), put(0, 1), ret(NONE, 0)});
@@ -699,6 +783,11 @@ public final class TermsEdgesTest {
     /** "(of CODE: rows of these; no MOVE, SWAP, SET, no go of an EDGE)"; "an INS (but SAVE and LOAD)". */
     private static void stepsOfCode() {
         told("SWAP, SET, MOVE", ready(States.FLIP, 2), 50, 1, 13, 1, 2, 1);
+        shown("SWAP, SET, MOVE", ready(States.FLIP, 2), 2, 1);
+        told("one SWAP", ready(States.FLIP, 1), 50, 1, 8, 2, 1, 1);
+        told("five SWAPS", ready(States.FLIP, 5), 50, 1, 28, 2, 5, 1);
+        shown("three that go round", ready("fun(a,b,c)s:go t t:p=phi s b q=phi s c r=phi s a out p out q out r ret 0", 4, 5, 6),
+            5, 6, 4);
         told("an EDGE", ready("fun(a)s:go v v:p=phi s 5,w 6 q=phi s 0,w r r=add q p if p w x w:if a v x x:ret r", 1), 9,
             0, 9, 0, 0, 1);
         told("a bare EDGE", ready("fun(n)s:go h h:i=phi s n,h j j=sub i 1 if j h e e:ret 7", 3), 8, 1, 8, 7, 0, 1);

@@ -39,6 +39,7 @@ public final class TextEdgesTest {
         a9thParameter();
         a151stValue();
         a401stItem();
+        limitsAreOfOneText();
         twice();
         valuesAndBlocksMayHaveTheSame();
         noSuchNameInAllTheText();
@@ -363,6 +364,8 @@ public final class TextEdgesTest {
         fault(ROOM, prefix(1197) + "ret 0 t@:ret 0");
         fault(ROOM, prefix(1199) + "go @t t:ret 0");
         fault(ROOM, prefix(1197) + "if 1 t @u t:ret 0 u:ret 0");
+        fault(ROOM, prefix(1194) + "go t t:p=@phi s 1 ret 0");
+        fault(ROOM, prefix(1193) + "go t t:p=phi @s 1 ret 0");
         fault(ROOM, prefix(1192) + "go t t:p=phi s @1 ret 0");
         fault(ROOM, prefix(1191) + "go t t:p=phi s 1@,s 1 ret 0");
         fault(ROOM, prefix(1190) + "go t t:p=phi s 1,@s 1 ret 0");
@@ -444,6 +447,31 @@ public final class TextEdgesTest {
         fault(SYNTAX, "fun()s:" + many("out 1 ", 400) + "@in");
         fault(SYNTAX, "fun()s:" + many("out 1 ", 400) + "@");
         due("items", CHECK.good("fun()s:" + many("out 1 ", 399) + "ret 0").count(2), 399);
+    }
+
+    /** What an earlier text had of all these does not count. */
+    private static void limitsAreOfOneText() {
+        String[] full = {prefix(1198) + "ret 0", chain(30) + "ret 0", "fun(a,b,c,d,e,f,g,h)s:ret h",
+            "fun()s:" + many("v#=in ", 150) + "ret 0", "fun()s:go t t:" + many("p#=phi s 1 ", 150) + "ret p149",
+            "fun()s:" + many("out 1 ", 399) + "ret 0"};
+        for (String first : full) {
+            for (String second : full) {
+                PaletteHouse x = new PaletteHouse();
+                Check.feed(x, first);
+                due("the first", x.read(), 0);
+                Check.feed(x, second);
+                due("the second", x.read(), 0);
+                due("no place", x.place(), NONE);
+                PaletteHouse twin = Check.houseOf(second);
+                for (int what = 0; what <= 6; what++) {
+                    due("count(" + what + ") of the second", x.count(what), twin.count(what));
+                }
+            }
+            PaletteHouse x = Check.houseOf(first + " ?");
+            due("a FAULT", x.place(), first.length() + 1);
+            Check.feed(x, first);
+            due("then none", x.read(), 0);
+        }
     }
 
     /** "3 TWICE: a VALUE's, a BLOCK's NAME that an earlier VALUE, BLOCK has". */
